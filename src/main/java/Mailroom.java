@@ -1056,12 +1056,7 @@ public final class Mailroom {
         }
 
         int of(int id, int column) {
-            for (int row = 0; row < size; row++) {
-                if (ids[row] == id && column >= 0 && column < wide) {
-                    return cells[row * wide + column];
-                }
-            }
-            return NONE;
+            return cell(rowOf(id), column);
         }
 
         void put(int row, int column, int value) {
@@ -1110,7 +1105,6 @@ public final class Mailroom {
 
         /** Those that were there before, too, and are other now. */
         void collectChanged(Table before, Ids into) {
-            into.empty();
             for (int row = 0; row < size; row++) {
                 int old = before.rowOf(idAt(row));
                 if (old != NONE && !isRowSame(row, before, old)) {
@@ -1144,7 +1138,7 @@ public final class Mailroom {
         }
 
         boolean isKnown(int since) {
-            return since >= firstKnown() && since <= state;
+            return since >= 0 && since <= state && since > state - KNOWN_STATES;
         }
 
         void standAt(int since) {
@@ -1978,27 +1972,53 @@ public final class Mailroom {
 
         /** What there is is in the LOG from now on; STATES go on where it is other than it was there. */
         void keep() {
-            advanceThreads();
-            advance(mailboxStates, logged.mailboxes, live.mailboxes);
-            advance(submissionStates, logged.submissions, live.submissions);
-            if (advance(emailStates, logged.emails, live.emails)) {
-                emailsAt(emailStates.state).copy(live.emails);
+            for (int type = 0; type < TYPES; type++) {
+                collectNow(type);
+                collectTouched(type);
+                boolean isAdvanced = historyOf(type).advance(now, touched);
+                if (isAdvanced && type == EMAIL) {
+                    emailsAt(emailStates.state).copy(live.emails);
+                }
             }
             logged.copy(live);
         }
 
-        private boolean advance(History history, Table before, Table after) {
-            after.collectChanged(before, touched);
-            after.collect(now);
-            return history.advance(now, touched);
+        private void collectNow(int type) {
+            switch (type) {
+                case MAILBOX:
+                    live.mailboxes.collect(now);
+                    break;
+                case EMAIL:
+                    live.emails.collect(now);
+                    break;
+                case THREAD:
+                    live.collectThreads();
+                    now.copy(live.threads.words);
+                    break;
+                default:
+                    live.submissions.collect(now);
+                    break;
+            }
         }
 
-        private void advanceThreads() {
+        /** Of a TYPE what is other than the LOG has it; what came or went may be with it. */
+        private void collectTouched(int type) {
             touched.empty();
-            touchThreads(logged.emails, live.emails);
-            touchThreads(live.emails, logged.emails);
-            live.collectThreads();
-            threadStates.advance(live.threads, touched);
+            switch (type) {
+                case MAILBOX:
+                    live.mailboxes.collectChanged(logged.mailboxes, touched);
+                    break;
+                case EMAIL:
+                    live.emails.collectChanged(logged.emails, touched);
+                    break;
+                case THREAD:
+                    touchThreads(logged.emails, live.emails);
+                    touchThreads(live.emails, logged.emails);
+                    break;
+                default:
+                    live.submissions.collectChanged(logged.submissions, touched);
+                    break;
+            }
         }
 
         /** THREADS of EMAILS that others have not. */
@@ -2072,19 +2092,13 @@ public final class Mailroom {
         // -- whether all is right
 
         boolean isRight() {
-            return live.areCountsRight() && live.areMailboxesRight() && live.areEmailsRight()
-                    && isRight(mailboxStates, live.mailboxes) && isRight(emailStates, live.emails)
-                    && isRight(submissionStates, live.submissions) && areThreadsRight() && live.isSame(logged);
-        }
-
-        private boolean isRight(History history, Table table) {
-            table.collect(now);
-            return history.isRight(now);
-        }
-
-        private boolean areThreadsRight() {
-            live.collectThreads();
-            return threadStates.isRight(live.threads);
+            boolean isRight = live.areCountsRight() && live.areMailboxesRight() && live.areEmailsRight()
+                    && live.isSame(logged);
+            for (int type = 0; type < TYPES; type++) {
+                collectNow(type);
+                isRight = isRight && historyOf(type).isRight(now);
+            }
+            return isRight;
         }
     }
 }
