@@ -694,7 +694,7 @@ public final class Mailroom {
 
     private void writeLost() {
         for (int place = 0; place < oldLine.size; place++) {
-            if (line.placeOf(oldLine.idAt(place)) == NONE) {
+            if (!line.has(oldLine.idAt(place))) {
                 writeBlank();
                 text.append("-e");
                 text.append(oldLine.idAt(place));
@@ -704,7 +704,7 @@ public final class Mailroom {
 
     private void writeGained() {
         for (int place = 0; place < line.size; place++) {
-            if (oldLine.placeOf(line.idAt(place)) == NONE) {
+            if (!oldLine.has(line.idAt(place))) {
                 writeBlank();
                 text.append(place);
                 text.append(":e");
@@ -866,12 +866,12 @@ public final class Mailroom {
     private boolean isLedToLine() {
         ledLine.empty();
         for (int place = 0; place < oldLine.size; place++) {
-            if (line.placeOf(oldLine.idAt(place)) != NONE) {
+            if (line.has(oldLine.idAt(place))) {
                 ledLine.insert(ledLine.size, oldLine.idAt(place));
             }
         }
         for (int place = 0; place < line.size; place++) {
-            if (oldLine.placeOf(line.idAt(place)) == NONE) {
+            if (!oldLine.has(line.idAt(place))) {
                 ledLine.insert(place, line.idAt(place));
             }
         }
@@ -1226,10 +1226,16 @@ public final class Mailroom {
         private final int[] ids = new int[MOST_EMAILS];
         private final int[] keys = new int[MOST_EMAILS];
         private final int[] groups = new int[MOST_EMAILS];
+        private final Ids held = new Ids();
         private int size;
 
         void empty() {
             size = 0;
+            held.empty();
+        }
+
+        boolean has(int id) {
+            return held.has(id);
         }
 
         int idAt(int place) {
@@ -1260,6 +1266,7 @@ public final class Mailroom {
             ids[place] = id;
             keys[place] = key;
             groups[place] = group;
+            held.put(id);
             size++;
         }
 
@@ -1272,12 +1279,14 @@ public final class Mailroom {
                 ids[k] = ids[k - 1];
             }
             ids[place] = id;
+            held.put(id);
             size++;
         }
 
         /** Keeps the first one of each group alone. */
         void collapse() {
             int kept = 0;
+            held.empty();
             for (int place = 0; place < size && place < MOST_EMAILS; place++) {
                 boolean isFirst = true;
                 for (int k = 0; k < kept; k++) {
@@ -1287,6 +1296,7 @@ public final class Mailroom {
                     ids[kept] = ids[place];
                     keys[kept] = keys[place];
                     groups[kept] = groups[place];
+                    held.put(ids[kept]);
                     kept++;
                 }
             }

@@ -217,6 +217,31 @@ final class Asked {
             run(0) =
             answer(0) =
             """);
+        PromisesTest.run("44 house, of both accounts", """
+            upload(0, 1, 0, 0, 1, 0) = 1
+            upload(1, 1, 0, 0, 1, 0) = 1
+            newMailbox(0, 0, -1, 0, 0) = 0
+            newEmail(0, 1, -2, 0, 0) = 1
+            submit(0, -3, 2, 0) = 2
+            submit(0, -3, 0, 0) = 3
+            submit(0, -3, 2, 0) = 4
+            undo(0, -6) = 5
+            run(0) = m1 e1 s1 s2 s3 ok
+            newMailbox(1, 0, -1, 0, 0) = 0
+            newEmail(1, 1, -2, 0, 0) = 1
+            submit(1, -3, 2, 0) = 2
+            submit(1, -3, 2, 0) = 3
+            submit(1, -3, 0, 0) = 4
+            submit(1, -3, 2, 0) = 5
+            undo(1, -7) = 6
+            run(1) = m1 e1 s1 s2 s3 s4 ok
+            clock(0) = 5
+            house(7) = 3
+            house(8) = 2
+            house(9) = 2
+            total(0, 1) = 1
+            """);
+        digested();
         PromisesTest.run("45 isSound, 46 digest", """
             isSound() = 1
             digest() = -6015850431804720420
@@ -224,5 +249,68 @@ final class Asked {
             knock() = 1
             digest() = 1625852174985810427
             """);
+    }
+
+    /** The digest of a room with things of all kinds, added up from what the other methods answer. */
+    private static void digested() {
+        String[] lines = (MAILS + """
+            sequence(1, 2, true, true) = 0
+            filter(2, 2, -1, -1, -1, -1) = 1
+            submit(0, 2, 2, 5) = 0
+            submit(0, 3, 1, 90) = 1
+            bind(0, 3, 0) = 0
+            run(0) = s1 s2
+            newMailbox(1, 7, -1, 1, 3) = 0
+            run(1) = m1
+            knock() = 1
+            clock(95) = 2
+            fall() = 8
+            arm(true) = 0
+            newMailbox(1, 8, -1, 0, 3) = 0
+            bind(1, 2, 6) = 1
+            """).split("\n");
+        Calls calls = new Calls(new Mailroom());
+        for (String line : lines) {
+            calls.answer(line.substring(0, line.indexOf(" =")));
+        }
+        long d = 7675;
+        d = with(d, calls, "house(%d)", 11);
+        for (int account = 0; account < 2; account++) {
+            d = with(d, calls, "ofAccount(" + account + ", %d)", 11);
+            d = with(d, calls, "state(" + account + ", %d)", 4);
+            for (int id : ids(calls.answer("then(" + account + ", 0, " + calls.answer("state(" + account + ", 0)") + ")"))) {
+                d = with(d * 31 + id, calls, "ofMailbox(" + account + ", " + id + ", %d)", 10);
+            }
+            for (int id : ids(calls.answer("emails(" + account + ", -1)"))) {
+                d = with(d * 31 + id, calls, "ofEmail(" + account + ", " + id + ", %d)", 11);
+                d = d * 31 + calls.answer("where(" + account + ", " + id + ")").length();
+            }
+            for (String row : new String[] {"mailboxes", "threads", "blobs", "submissions", "answer"}) {
+                d = d * 31 + calls.answer(row + "(" + account + ")").length();
+            }
+            d = with(d, calls, "total(%d, " + account + ")", 4);
+            for (int type = 0; type < 4; type++) {
+                d = d * 31 + calls.answer("changes(" + account + ", " + type + ", 0, 99)").length();
+            }
+        }
+        d = d * 31 + 1;
+        PromisesTest.due("46 digest", calls.answer("digest()"), Long.toString(d));
+    }
+
+    private static long with(long sum, Calls calls, String call, int many) {
+        long d = sum;
+        for (int what = 0; what < many; what++) {
+            d = d * 31 + Long.parseLong(calls.answer(String.format(call, what)));
+        }
+        return d;
+    }
+
+    private static int[] ids(String row) {
+        String[] words = row.isEmpty() ? new String[0] : row.split(" ");
+        int[] ids = new int[words.length];
+        for (int k = 0; k < words.length; k++) {
+            ids[k] = Integer.parseInt(words[k].substring(1));
+        }
+        return ids;
     }
 }

@@ -33,15 +33,15 @@ public final class PromisesTest {
             String call = line.substring(0, equals).trim();
             String told = line.substring(equals + 2).trim();
             String due = told.equals("I") ? I : told.equals("A") ? A : told.equals("S") ? S : told;
-            String got = calls.answer(call);
-            if (!got.equals(due)) {
-                wrong++;
-                System.out.println(title + ": " + call + " answered " + got + ", due is " + due);
-            }
+            due(title + ": " + call, calls.answer(call), due);
         }
-        if (!calls.answer("isSound()").equals("1")) {
+        due(title + ": isSound() in the end", calls.answer("isSound()"), "1");
+    }
+
+    static void due(String title, String got, String due) {
+        if (!got.equals(due)) {
             wrong++;
-            System.out.println(title + ": it is not sound in the end");
+            System.out.println(title + " answered " + got + ", due is " + due);
         }
     }
 
@@ -358,6 +358,30 @@ public final class PromisesTest {
             changeMailbox(0, 6, 2, 5) = 2
             run(0) = ok m7 taken
             ofMailbox(0, 6, 2) = 0
+            """);
+        run("6 changeMailbox, with two levels under it, and a parent that came later", """
+            newMailbox(0, 0, -1, 0, 0) = 0
+            newMailbox(0, 1, -2, 0, 0) = 1
+            newMailbox(0, 2, -3, 0, 0) = 2
+            newMailbox(0, 3, -1, 0, 0) = 3
+            newMailbox(0, 4, -5, 0, 0) = 4
+            changeMailbox(0, -2, 1, -5) = 5
+            changeMailbox(0, -3, 1, -5) = 6
+            changeMailbox(0, -2, 1, -5) = 7
+            run(0) = m1 m2 m3 m4 m5 deep ok ok
+            path(0, 3) = 3/1/2
+            path(0, 1) = 3/0
+            ofMailbox(0, 4, 9) = 3
+            ofMailbox(0, 1, 9) = 0
+            changeMailbox(0, 4, 1, 1) = 0
+            dropMailbox(0, 5, false) = 1
+            dropMailbox(0, 3, false) = 2
+            dropMailbox(0, 2, false) = 3
+            dropMailbox(0, 4, false) = 4
+            dropMailbox(0, 1, false) = 5
+            dropMailbox(0, 4, false) = 6
+            run(0) = ring ok ok ok child ok ok
+            mailboxes(0) =
             """);
         run("7 dropMailbox", """
             dropMailbox(2, 0, true) = I

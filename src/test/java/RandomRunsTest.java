@@ -108,6 +108,9 @@ public final class RandomRunsTest {
     }
 
     private String call() {
+        if (lean == 5 && below(10) < 8) {
+            return taking();
+        }
         int dice = below(100);
         if (dice < 12) {
             int message = lean == 2 ? 4 : 12;
@@ -127,6 +130,21 @@ public final class RandomRunsTest {
             return told();
         }
         return asked();
+    }
+
+    /** What takes many IDS in a few calls. */
+    private String taking() {
+        switch (below(12)) {
+            case 0: return text("upload", 0, 1, between(0, 9), between(0, 3), between(1, 40), between(0, 40));
+            case 1: return text("run", 0);
+            case 2: return text("newMailbox", 0, between(0, 19), -1, 0, between(0, 9));
+            case 3: return text("dropMailbox", 0, box(0)).replace(")", ", " + (below(3) == 0) + ")");
+            case 4:
+            case 5: return text("dropEmail", 0, mail(0));
+            case 6:
+            case 7: return text("submit", 0, mail(0), between(0, 2), between(0, 900));
+            default: return text("newEmail", 0, blob(0), box(0), between(0, 63), between(0, 99));
+        }
     }
 
     private String step() {

@@ -3,6 +3,7 @@ import java.lang.reflect.Field;
 /** isSound() tells when something is not so: each run spoils one thing inside an object that is sound. */
 public final class SoundTest {
     private static final String[] MADE = {"upload(0, 5, 0, 0, 1, 0)", "upload(0, 5, 0, 1, 1, 0)",
+        "upload(0, 5, 0, 1, 1, 0)",
         "newMailbox(0, 0, -1, 1, 0)", "newMailbox(0, 1, -2, 0, 0)", "newMailbox(0, 0, -3, 2, 0)",
         "newMailbox(0, 3, -1, 3, 0)", "newEmail(0, 1, -2, 0, 7)", "newEmail(0, 2, -2, 0, 8)", "run(0)",
         "changeEmail(0, 1, 2, 2)", "newEmail(0, 1, 2, 0, 9)", "submit(0, 1, 2, 50)", "run(0)"};
@@ -29,6 +30,8 @@ public final class SoundTest {
         spoilt("a SUBMISSION other than in the LOG", "0", "submissions", 0, 3, 1);
         spoilt("a BLOB other than in the LOG", "0", "blobs", 1, 1, 1);
         spoiltPast();
+        spoiltSize("size", -1);
+        spoiltSize("next", 1);
         spoiltState("mailboxStates");
         spoiltState("emailStates");
         spoiltState("threadStates");
@@ -76,12 +79,27 @@ public final class SoundTest {
         due(title, due, room);
     }
 
-    /** Another sequence then than now, which no call can make. */
+    /** Another sequence then than now, which no call can make; one QUERY alone has these EMAILS. */
     private static void spoiltPast() throws ReflectiveOperationException {
+        for (int seeing = 0; seeing < 4; seeing++) {
+            Mailroom room = made();
+            for (int query = 0; query < 4; query++) {
+                room.filter(query, query == seeing ? -1 : 99, -1, -1, -1, -1);
+            }
+            Object table = ((Object[]) get(get(room, "first"), "emailsThen"))[1];
+            ((int[]) get(table, "cells"))[1] = 99;
+            due("a sequence of then by query " + seeing, "0", room);
+        }
+    }
+
+    /** What there is has one thing less, or another ID that comes next, than the LOG. */
+    private static void spoiltSize(String field, int by) throws ReflectiveOperationException {
         Mailroom room = made();
-        Object table = ((Object[]) get(get(room, "first"), "emailsThen"))[1];
-        ((int[]) get(table, "cells"))[1] = 99;
-        due("a sequence of then", "0", room);
+        Object table = get(get(get(room, "first"), "live"), "blobs");
+        Field its = table.getClass().getDeclaredField(field);
+        its.setAccessible(true);
+        its.setInt(table, its.getInt(table) + by);
+        due(field + " of BLOBS", "0", room);
     }
 
     private static void spoiltState(String history) throws ReflectiveOperationException {
