@@ -19,7 +19,7 @@ final class Asked {
     }
 
     static void all() {
-        PromisesTest.run("30 mailboxes, 31 ofMailbox, 32 path, 33 inRole", MAILS + """
+        Runs.run("30 mailboxes, 31 ofMailbox, 32 path, 33 inRole", MAILS + """
             mailboxes(2) = I
             mailboxes(-1) = I
             mailboxes(0) = m3 m2 m4 m1
@@ -75,7 +75,7 @@ final class Asked {
             inRole(0, 5) = 3
             inRole(1, 0) = -1
             """);
-        PromisesTest.run("34 emails, 35 ofEmail, 36 where", MAILS + """
+        Runs.run("34 emails, 35 ofEmail, 36 where", MAILS + """
             emails(2, -1) = I
             emails(-1, -1) = I
             emails(0, -1) = e1 e2 e3
@@ -122,7 +122,7 @@ final class Asked {
             where(0, -1) =
             where(1, 1) =
             """);
-        PromisesTest.run("37 threads, 38 thread, 39 blobs, 40 submissions, 41 ofSubmission", MAILS + """
+        Runs.run("37 threads, 38 thread, 39 blobs, 40 submissions, 41 ofSubmission", MAILS + """
             threads(2) = I
             threads(-1) = I
             threads(0) = t1 t2
@@ -162,7 +162,7 @@ final class Asked {
             ofSubmission(0, 2, 3) = 0
             thread(0, 1) = e1
             """);
-        PromisesTest.run("42 ofAccount, 43 answer, 44 house", MAILS + """
+        Runs.run("42 ofAccount, 43 answer, 44 house", MAILS + """
             ofAccount(2, 99) = I
             ofAccount(-1, 0) = I
             ofAccount(0, -1) = A
@@ -217,7 +217,7 @@ final class Asked {
             run(0) =
             answer(0) =
             """);
-        PromisesTest.run("44 house, of both accounts", """
+        Runs.run("44 house, of both accounts", """
             upload(0, 1, 0, 0, 1, 0) = 1
             upload(1, 1, 0, 0, 1, 0) = 1
             newMailbox(0, 0, -1, 0, 0) = 0
@@ -242,7 +242,7 @@ final class Asked {
             total(0, 1) = 1
             """);
         digested();
-        PromisesTest.run("45 isSound, 46 digest", """
+        Runs.run("45 isSound, 46 digest", """
             isSound() = 1
             digest() = -6015850431804720420
             isSound() = 1
@@ -294,7 +294,7 @@ final class Asked {
             }
         }
         d = d * 31 + 1;
-        PromisesTest.due("46 digest", calls.answer("digest()"), Long.toString(d));
+        Runs.due("46 digest", calls.answer("digest()"), Long.toString(d));
     }
 
     private static long with(long sum, Calls calls, String call, int many) {

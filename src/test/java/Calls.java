@@ -7,6 +7,7 @@ import java.util.Map;
 final class Calls {
     private final Object object;
     private final Map<String, Method> methods = new HashMap<>();
+    private int made;
 
     Calls(Object object) {
         this.object = object;
@@ -16,6 +17,11 @@ final class Calls {
                 methods.put(method.getName(), method);
             }
         }
+    }
+
+    /** How many calls were made. */
+    int made() {
+        return made;
     }
 
     /** The answer of a call like "ask(0, 1, -2, 9)"; a boolean is 1 or 0, an exception "throws." and its name. */
@@ -37,6 +43,7 @@ final class Calls {
     }
 
     private String answer(Method method, Object[] arguments) {
+        made++;
         try {
             Object answer = method.invoke(object, arguments);
             return answer instanceof Boolean ? ((Boolean) answer ? "1" : "0") : String.valueOf(answer);

@@ -4,7 +4,7 @@ final class Changes {
     }
 
     static void all() {
-        PromisesTest.run("27 changes, 28 state, 29 then: wrong inputs", """
+        Runs.run("27 changes, 28 state, 29 then: wrong inputs", """
             changes(2, 4, 0, 0) = I
             changes(-1, 0, 0, 1) = I
             changes(0, -1, 0, 1) = A
@@ -28,7 +28,7 @@ final class Changes {
             then(0, 0, -1) = cannot
             then(0, 2, 0) =
             """);
-        PromisesTest.run("27 changes, each kind by ids, step by step", """
+        Runs.run("27 changes, each kind by ids, step by step", """
             newMailbox(0, 5, -1, 0, 0) = 0
             newMailbox(0, 6, -1, 0, 0) = 1
             newMailbox(0, 7, -1, 0, 0) = 2
@@ -70,7 +70,7 @@ final class Changes {
             state(0, 0) = 5
             state(1, 0) = 0
             """);
-        PromisesTest.run("27 what comes and goes, or is changed and changed back, in one act", """
+        Runs.run("27 what comes and goes, or is changed and changed back, in one act", """
             newMailbox(0, 5, -1, 0, 0) = 0
             newMailbox(0, 6, -1, 0, 0) = 1
             dropMailbox(0, -3, false) = 2
@@ -89,7 +89,7 @@ final class Changes {
             run(0) = ok
             changes(0, 0, 1, 1) = 3 ~m1
             """);
-        PromisesTest.run("27 a mailbox is changed by each of its counts", """
+        Runs.run("27 a mailbox is changed by each of its counts", """
             upload(0, 1, 0, 0, 1, 0) = 1
             upload(0, 1, 0, 0, 2, 0) = 2
             newMailbox(0, 0, -1, 0, 0) = 0
@@ -125,7 +125,7 @@ final class Changes {
             ofMailbox(0, 1, 5) = 2
             ofMailbox(0, 1, 7) = 1
             """);
-        PromisesTest.run("27 a thread is changed by the set of its emails alone", """
+        Runs.run("27 a thread is changed by the set of its emails alone", """
             upload(0, 1, 0, 0, 1, 0) = 1
             newMailbox(0, 0, -1, 0, 0) = 0
             newEmail(0, 1, -2, 0, 0) = 1
@@ -149,7 +149,7 @@ final class Changes {
             then(0, 2, 2) = t1
             then(0, 2, 3) = t2
             """);
-        PromisesTest.run("27 an email that leaves a mailbox that goes for a new one is changed", """
+        Runs.run("27 an email that leaves a mailbox that goes for a new one is changed", """
             upload(0, 1, 0, 0, 1, 0) = 1
             newMailbox(0, 0, -1, 0, 0) = 0
             newMailbox(0, 1, -1, 0, 0) = 1
@@ -164,7 +164,7 @@ final class Changes {
             changes(0, 1, 1, 9) = 2 ~e1
             changes(0, 0, 1, 9) = 2 +m3 -m1
             """);
-        PromisesTest.run("27 submissions", """
+        Runs.run("27 submissions", """
             upload(0, 1, 0, 0, 1, 0) = 1
             newMailbox(0, 0, -1, 0, 0) = 0
             newEmail(0, 1, -2, 0, 0) = 1
@@ -183,7 +183,7 @@ final class Changes {
             changes(0, 3, 0, 9) = 3 +s1 +s2 +s3
             state(0, 1) = 1
             """);
-        PromisesTest.run("27 a thread that an email leaves is changed, one of which all are read is there", """
+        Runs.run("27 a thread that an email leaves is changed, one of which all are read is there", """
             upload(0, 1, 0, 0, 1, 0) = 1
             upload(0, 1, 0, 1, 1, 0) = 2
             newMailbox(0, 0, -1, 0, 0) = 0
@@ -207,7 +207,7 @@ final class Changes {
             threads(0) = t2
             ofAccount(0, 7) = 1
             """);
-        PromisesTest.run("27 an email that comes into the eighth mailbox and out of it is as it was", """
+        Runs.run("27 an email that comes into the eighth mailbox and out of it is as it was", """
             upload(0, 1, 0, 0, 1, 0) = 1
             newMailbox(0, 0, -1, 0, 0) = 0
             newMailbox(0, 1, -1, 0, 0) = 1
@@ -287,7 +287,7 @@ final class Changes {
             changes(0, 2, 1, 9) = 2 -t77
             sweep(0) = 1
             """);
-        PromisesTest.run("ids far above 64", lines.toString());
+        Runs.run("ids far above 64", lines.toString());
         StringBuilder blobs = new StringBuilder();
         for (int blob = 1; blob <= 260; blob++) {
             blobs.append("upload(0, 1, 0, 0, 1, 0) = ").append(blob).append('\n');
@@ -306,7 +306,7 @@ final class Changes {
             sweep(0) = 2
             blobs(0) = b4 b260
             """);
-        PromisesTest.run("ids of blobs far above 64", blobs.toString());
+        Runs.run("ids of blobs far above 64", blobs.toString());
     }
 
     /** The STATE of now and the 23 below it are known. */
@@ -329,6 +329,6 @@ final class Changes {
             changes(0, 0, 1, 1) = cannot
             changes(0, 0, 2, 1) = 25 -m1
             """);
-        PromisesTest.run("27, 29 the states that are known", lines.toString());
+        Runs.run("27, 29 the states that are known", lines.toString());
     }
 }

@@ -1,11 +1,7 @@
 /** Each promise of the document: ordinary calls, edges, and wrong ones; a run has its own object. */
 public final class PromisesTest {
-    private static final String I = "throws.IndexOutOfBoundsException";
-    private static final String A = "throws.IllegalArgumentException";
-    private static final String S = "throws.IllegalStateException";
-
-    private static int runs;
-    private static int wrong;
+    private PromisesTest() {
+    }
 
     public static void main(String[] args) {
         storePromises();
@@ -14,39 +10,11 @@ public final class PromisesTest {
         Changes.all();
         Queries.all();
         Asked.all();
-        if (wrong > 0) {
-            System.out.println(wrong + " answers are not as due");
-            System.exit(1);
-        }
-        System.out.println(runs + " runs by promises are as due");
-    }
-
-    /** A run: lines of calls, each with "=" and the answer that is due; I, A and S stand for exceptions. */
-    static void run(String title, String lines) {
-        runs++;
-        Calls calls = new Calls(new Mailroom());
-        for (String line : lines.split("\n")) {
-            if (line.isBlank()) {
-                continue;
-            }
-            int equals = line.indexOf(" =");
-            String call = line.substring(0, equals).trim();
-            String told = line.substring(equals + 2).trim();
-            String due = told.equals("I") ? I : told.equals("A") ? A : told.equals("S") ? S : told;
-            due(title + ": " + call, calls.answer(call), due);
-        }
-        due(title + ": isSound() in the end", calls.answer("isSound()"), "1");
-    }
-
-    static void due(String title, String got, String due) {
-        if (!got.equals(due)) {
-            wrong++;
-            System.out.println(title + " answered " + got + ", due is " + due);
-        }
+        Runs.end("promises");
     }
 
     private static void storePromises() {
-        run("1 a new object", """
+        Runs.run("1 a new object", """
             house(0) = 0
             house(1) = 0
             house(2) = 0
@@ -69,7 +37,7 @@ public final class PromisesTest {
             total(0, 0) = 0
             run(1) =
             """);
-        run("2 upload", """
+        Runs.run("2 upload", """
             upload(0, 1, 0, 0, 1, 0) = 1
             upload(0, 99, 9, 9, 99, 99) = 2
             upload(1, 5, 5, 5, 5, 5) = 1
@@ -101,7 +69,7 @@ public final class PromisesTest {
             upload(0, 1, 0, 0, 1, 0) = 3
             state(0, 1) = 0
             """);
-        run("2 upload torn empties all requests that are typed", """
+        Runs.run("2 upload torn empties all requests that are typed", """
             dropEmail(0, 1) = 0
             bind(1, 2, 7) = 0
             arm(true) = 0
@@ -110,7 +78,7 @@ public final class PromisesTest {
             ofAccount(1, 1) = -1
             ofAccount(1, 2) = -1
             """);
-        run("3 sweep", """
+        Runs.run("3 sweep", """
             arm(true) = 0
             sweep(0) = 0
             house(1) = 1
@@ -140,7 +108,7 @@ public final class PromisesTest {
             sweep(-1) = I
             sweep(2) = I
             """);
-        run("4 quota", """
+        Runs.run("4 quota", """
             quota(0, 1) = 400
             quota(0, 9999) = 1
             quota(1, 9999) = 400
@@ -158,7 +126,7 @@ public final class PromisesTest {
             quota(0, 8) = -9
             ofAccount(0, 4) = 7
             """);
-        run("17 arm, 18 fall, 19 image, 20 knock", """
+        Runs.run("17 arm, 18 fall, 19 image, 20 knock", """
             arm(false) = 0
             arm(true) = 0
             arm(true) = 1
@@ -201,7 +169,7 @@ public final class PromisesTest {
             knock() = 3
             house(10) = 3
             """);
-        run("18 fall leaves states and answers, 19 image leaves what is armed and typed", """
+        Runs.run("18 fall leaves states and answers, 19 image leaves what is armed and typed", """
             newMailbox(0, 1, -1, 0, 0) = 0
             run(0) = m1
             fall() = 1
@@ -222,7 +190,7 @@ public final class PromisesTest {
     }
 
     private static void requestPromises() {
-        run("5 newMailbox", """
+        Runs.run("5 newMailbox", """
             newMailbox(2, 0, -1, 0, 0) = I
             newMailbox(-1, 20, -1, 0, 0) = I
             newMailbox(0, -1, -1, 0, 0) = A
@@ -252,7 +220,7 @@ public final class PromisesTest {
             mailboxes(0) = m2 m3 m1
             path(0, 3) = 19/0/0
             """);
-        run("5 at most eight mailboxes, and which word goes ahead", """
+        Runs.run("5 at most eight mailboxes, and which word goes ahead", """
             newMailbox(0, 0, -1, 0, 0) = 0
             newMailbox(0, 1, -1, 0, 0) = 1
             newMailbox(0, 2, -1, 0, 0) = 2
@@ -277,7 +245,7 @@ public final class PromisesTest {
             newMailbox(0, 0, 9, 1, 0) = 0
             run(0) = many
             """);
-        run("5 taken goes ahead of deep; names of another parent and roles 0 are free", """
+        Runs.run("5 taken goes ahead of deep; names of another parent and roles 0 are free", """
             newMailbox(0, 0, -1, 1, 0) = 0
             newMailbox(0, 0, -2, 0, 0) = 1
             newMailbox(0, 0, -3, 0, 0) = 2
@@ -288,7 +256,7 @@ public final class PromisesTest {
             run(1) = m1
             ofMailbox(0, 3, 4) = 3
             """);
-        run("6 changeMailbox, wrong inputs", """
+        Runs.run("6 changeMailbox, wrong inputs", """
             changeMailbox(2, 0, 0, 0) = I
             changeMailbox(0, 0, 0, 0) = A
             changeMailbox(0, -1, 0, 0) = A
@@ -316,7 +284,7 @@ public final class PromisesTest {
             changeMailbox(0, 1, 4, 0) = A
             run(0) = notfound notfound noref noref notfound notfound notfound noref
             """);
-        run("6 changeMailbox", """
+        Runs.run("6 changeMailbox", """
             newMailbox(0, 0, -1, 1, 0) = 0
             newMailbox(0, 1, -2, 2, 0) = 1
             newMailbox(0, 2, -3, 0, 0) = 2
@@ -359,7 +327,7 @@ public final class PromisesTest {
             run(0) = ok m7 taken
             ofMailbox(0, 6, 2) = 0
             """);
-        run("6 changeMailbox, with two levels under it, and a parent that came later", """
+        Runs.run("6 changeMailbox, with two levels under it, and a parent that came later", """
             newMailbox(0, 0, -1, 0, 0) = 0
             newMailbox(0, 1, -2, 0, 0) = 1
             newMailbox(0, 2, -3, 0, 0) = 2
@@ -383,7 +351,7 @@ public final class PromisesTest {
             run(0) = ring ok ok ok child ok ok
             mailboxes(0) =
             """);
-        run("7 dropMailbox", """
+        Runs.run("7 dropMailbox", """
             dropMailbox(2, 0, true) = I
             dropMailbox(0, 0, true) = A
             dropMailbox(0, -1, true) = A
@@ -421,7 +389,7 @@ public final class PromisesTest {
             newMailbox(0, 5, -1, 0, 0) = 0
             run(0) = m5
             """);
-        run("8 newEmail, wrong inputs", """
+        Runs.run("8 newEmail, wrong inputs", """
             newEmail(2, 0, 0, 0, 0) = I
             newEmail(0, 0, 1, 0, 0) = A
             newEmail(0, -2, 1, 0, 0) = A
@@ -444,7 +412,7 @@ public final class PromisesTest {
             newEmail(0, 1, 1, 64, 0) = A
             run(0) = notfound noref notfound notfound notfound notfound notfound notfound
             """);
-        run("8 newEmail, quotas and threads", """
+        Runs.run("8 newEmail, quotas and threads", """
             upload(0, 10, 0, 1, 5, 0) = 1
             upload(0, 10, 0, 1, 6, 5) = 2
             upload(0, 10, 0, 2, 6, 5) = 3
@@ -488,7 +456,7 @@ public final class PromisesTest {
             run(0) = e9
             threads(0) = t5
             """);
-        run("8 newEmail, the smallest of several threads; those that are there are not joined", """
+        Runs.run("8 newEmail, the smallest of several threads; those that are there are not joined", """
             upload(0, 1, 0, 0, 5, 0) = 1
             upload(0, 1, 0, 0, 6, 0) = 2
             upload(0, 1, 0, 0, 5, 6) = 3
@@ -517,7 +485,7 @@ public final class PromisesTest {
             threads(0) = t1 t2 t3 t4
             """);
         fortyEmails();
-        run("9 changeEmail", """
+        Runs.run("9 changeEmail", """
             changeEmail(2, 0, 0, 0) = I
             changeEmail(0, 0, 0, 0) = A
             changeEmail(0, -1, 0, 0) = A
@@ -562,7 +530,7 @@ public final class PromisesTest {
             state(0, 1) = 2
             house(5) = 3
             """);
-        run("10 dropEmail", """
+        Runs.run("10 dropEmail", """
             dropEmail(2, 0) = I
             dropEmail(0, 0) = A
             dropEmail(0, -1) = A
@@ -587,7 +555,7 @@ public final class PromisesTest {
             run(0) = e3
             threads(0) = t2
             """);
-        run("11 submit, 12 undo", """
+        Runs.run("11 submit, 12 undo", """
             submit(2, 0, 0, 0) = I
             submit(0, 0, 0, 0) = A
             submit(0, -1, 0, 0) = A
@@ -625,7 +593,7 @@ public final class PromisesTest {
             ofAccount(0, 10) = 2
             house(9) = 1
             """);
-        run("13 bind, 14 clear", """
+        Runs.run("13 bind, 14 clear", """
             bind(2, 4, -1) = I
             bind(-1, 0, 0) = I
             bind(0, -1, 0) = A
@@ -659,7 +627,7 @@ public final class PromisesTest {
             mailboxes(0) = m1
             house(2) = 1
             """);
-        run("15 run", """
+        Runs.run("15 run", """
             run(2) = I
             run(-1) = I
             run(0) =
@@ -706,7 +674,7 @@ public final class PromisesTest {
             arm(true) = 0
             run(0) = torn
             """);
-        run("15 a step that is not done makes nothing, one that names it has no reference", """
+        Runs.run("15 a step that is not done makes nothing, one that names it has no reference", """
             upload(0, 5, 0, 0, 1, 0) = 1
             newMailbox(0, 0, -1, 0, 0) = 0
             newMailbox(0, 0, -1, 0, 0) = 1
@@ -739,6 +707,6 @@ public final class PromisesTest {
             lines.append(" -e").append(email);
         }
         lines.append("\nchanges(0, 2, 17, 1) = cannot\nchanges(0, 2, 18, 1) = 41 -t1\nthen(0, 2, 40) = t1\nthen(0, 2, 41) =\n");
-        run("8 at most forty emails; 27 at most 24 states", lines.toString());
+        Runs.run("8 at most forty emails; 27 at most 24 states", lines.toString());
     }
 }

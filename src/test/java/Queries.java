@@ -19,7 +19,7 @@ final class Queries {
     }
 
     static void all() {
-        PromisesTest.run("21 filter, 22 sequence: wrong inputs", """
+        Runs.run("21 filter, 22 sequence: wrong inputs", """
             filter(-1, 0, 9, 9, 99, 99) = I
             filter(4, -1, -1, -1, -1, -1) = I
             filter(0, 0, -1, -1, -1, -1) = A
@@ -44,7 +44,7 @@ final class Queries {
             sequence(0, 1, true, true) = 3
             sequence(3, 0, true, true) = 0
             """);
-        PromisesTest.run("21 filter", MAILS + """
+        Runs.run("21 filter", MAILS + """
             filter(0, 1, -1, -1, -1, -1) = 1
             ask(0, 0, 0, 40) = e2 e1
             filter(0, 2, -1, -1, -1, -1) = 1
@@ -76,7 +76,7 @@ final class Queries {
             ask(1, 0, 0, 40) = e4 e2 e1 e3
             ask(1, 1, 0, 40) =
             """);
-        PromisesTest.run("22 sequence", MAILS + """
+        Runs.run("22 sequence", MAILS + """
             sequence(2, 0, true, false) = 0
             ask(2, 0, 0, 40) = e1 e3 e2 e4
             sequence(2, 1, false, false) = 0
@@ -100,7 +100,7 @@ final class Queries {
             ask(2, 0, 0, 40) = e2
             ask(0, 0, 0, 40) = e4 e2 e1 e3
             """);
-        PromisesTest.run("23 ask, 24 askAt, 25 total", MAILS + """
+        Runs.run("23 ask, 24 askAt, 25 total", MAILS + """
             ask(-1, 0, 0, 99) = I
             ask(4, 0, 0, 0) = I
             ask(0, 2, 0, 99) = I
@@ -142,7 +142,7 @@ final class Queries {
             total(0, 2) = I
             total(0, -1) = I
             """);
-        PromisesTest.run("26 queryChanges", MAILS + """
+        Runs.run("26 queryChanges", MAILS + """
             queryChanges(-1, 0, 0) = I
             queryChanges(4, 0, 0) = I
             queryChanges(0, 2, 0) = I

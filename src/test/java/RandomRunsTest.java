@@ -1,10 +1,15 @@
 import java.util.ArrayList;
+import java.util.Collections;
 import java.util.List;
 import java.util.Random;
 
 /** Runs of many calls, by numbers from fixed seeds: each answer is to be the one of Model. */
 public final class RandomRunsTest {
     private static final int CALLS = 512;
+    /** Of so many runs one ends early, and all is asked then, in a mixed sequence. */
+    private static final int ASKED_OUT = 20;
+    private static final int LEAST = Integer.MIN_VALUE;
+    private static final int MOST = Integer.MAX_VALUE;
     private static final String[] ASKED = {"ask", "askAt", "total", "queryChanges", "changes", "state", "then",
         "mailboxes", "ofMailbox", "path", "inRole", "emails", "ofEmail", "where", "threads", "thread", "blobs",
         "submissions", "ofSubmission", "ofAccount", "answer", "house", "isSound"};
@@ -12,6 +17,8 @@ public final class RandomRunsTest {
     private final Random random;
     /** How far this run leans to ACCOUNT 0, to like MESSAGES, to tearing, to sending and so on. */
     private final int lean;
+    private final List<String> done = new ArrayList<>();
+    private Calls program;
     private Calls model;
 
     private RandomRunsTest(long seed) {
@@ -33,21 +40,103 @@ public final class RandomRunsTest {
     }
 
     private boolean differs(long seed) {
-        Calls program = new Calls(new Mailroom());
+        program = new Calls(new Mailroom());
         model = new Calls(new Model());
-        List<String> done = new ArrayList<>();
-        for (int k = 0; k < CALLS; k++) {
-            String call = k == CALLS - 1 || below(60) == 0 ? "digest()" : call();
-            String got = program.answer(call);
-            String due = model.answer(call);
-            done.add(call + " = " + got);
-            if (!got.equals(due)) {
-                done.forEach(System.out::println);
-                System.out.println("seed " + seed + ", call " + k + ": " + call + " answered " + got + ", due is " + due);
-                return true;
+        boolean isAskedOut = seed % ASKED_OUT == 0;
+        int calls = isAskedOut ? between(40, CALLS) : CALLS;
+        boolean isOther = false;
+        for (int k = 0; k < calls && !isOther; k++) {
+            isOther = isOther(seed, k == CALLS - 1 || below(60) == 0 ? "digest()" : call());
+        }
+        if (isAskedOut && !isOther) {
+            // more calls than promised, but what asks takes nothing, so what there is stays within it
+            for (String call : all()) {
+                isOther = isOther || isOther(seed, call);
             }
         }
-        return false;
+        return isOther;
+    }
+
+    private boolean isOther(long seed, String call) {
+        String got = program.answer(call);
+        String due = model.answer(call);
+        done.add(call + " = " + got);
+        if (got.equals(due)) {
+            return false;
+        }
+        done.forEach(System.out::println);
+        System.out.println("seed " + seed + ": " + call + " answered " + got + ", due is " + due);
+        return true;
+    }
+
+    /** All that can be asked of what there is, with what lies beside it; asking has to change nothing. */
+    private List<String> all() {
+        List<String> calls = new ArrayList<>();
+        for (int account = 0; account < 2; account++) {
+            for (String method : new String[] {"mailboxes", "threads", "blobs", "submissions", "answer"}) {
+                calls.add(text(method, account));
+            }
+            things(calls, account);
+            states(calls, account);
+            for (int query = 0; query < 4; query++) {
+                results(calls, query, account);
+            }
+        }
+        for (int what = 0; what <= 10; what++) {
+            calls.add(text("house", what));
+        }
+        calls.add("digest()");
+        Collections.shuffle(calls, random);
+        return calls;
+    }
+
+    private void things(List<String> calls, int account) {
+        for (int id = -2; id <= 60; id++) {
+            for (String method : new String[] {"path", "emails", "where", "thread"}) {
+                calls.add(text(method, account, id));
+            }
+            for (int what = 0; what <= 10; what++) {
+                calls.add(text("ofMailbox", account, id, what));
+                calls.add(text("ofEmail", account, id, what));
+                calls.add(text("ofSubmission", account, id, what));
+                calls.add(text("ofAccount", account, what));
+                calls.add(text("inRole", account, what));
+            }
+        }
+    }
+
+    private void states(List<String> calls, int account) {
+        for (int type = 0; type < 4; type++) {
+            int now = Integer.parseInt(model.answer(text("state", account, type)));
+            calls.add(text("state", account, type));
+            for (int since = now - 26; since <= now + 2; since++) {
+                calls.add(text("then", account, type, since));
+                for (int most : new int[] {1, 2, 3, 4, 5, 6, 7, 8, 10, 12, 15, 20, 30, 99}) {
+                    calls.add(text("changes", account, type, since, most));
+                }
+                for (int query = 0; query < 4 && type == 1; query++) {
+                    calls.add(text("queryChanges", query, account, since));
+                }
+            }
+        }
+    }
+
+    private void results(List<String> calls, int query, int account) {
+        int total = Integer.parseInt(model.answer(text("total", query, account)));
+        calls.add(text("total", query, account));
+        for (int many : new int[] {0, 1, 2, 40}) {
+            for (int position = -total - 2; position <= total + 1; position++) {
+                calls.add(text("ask", query, account, position, many));
+            }
+            calls.add(text("ask", query, account, LEAST, many));
+            calls.add(text("ask", query, account, MOST, many));
+            for (String email : model.answer(text("emails", account, -1)).concat(" e0 e-1 e575 e576").trim().split(" ")) {
+                int anchor = Integer.parseInt(email.substring(1));
+                for (int offset : new int[] {LEAST, -total, -2, -1, 0, 1, 2, total - 1, total, MOST}) {
+                    calls.add(text("askAt", query, account, anchor, offset, many));
+                }
+            }
+        }
     }
 
     private int below(int bound) {

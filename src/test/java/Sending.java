@@ -4,14 +4,14 @@ final class Sending {
     }
 
     static void all() {
-        PromisesTest.run("16 clock, wrong inputs", """
+        Runs.run("16 clock, wrong inputs", """
             clock(-1) = A
             clock(1000) = A
             clock(999) = 0
             clock(0) = 0
             house(0) = 999
             """);
-        PromisesTest.run("16 clock, to somebody else", """
+        Runs.run("16 clock, to somebody else", """
             upload(0, 5, 1, 2, 3, 4) = 1
             newMailbox(0, 0, -1, 2, 0) = 0
             newMailbox(0, 1, -1, 3, 0) = 1
@@ -51,7 +51,7 @@ final class Sending {
             undo(0, 1) = 0
             run(0) = sent
             """);
-        PromisesTest.run("16 clock, to the other account", """
+        Runs.run("16 clock, to the other account", """
             upload(0, 5, 1, 2, 3, 4) = 1
             newMailbox(0, 0, -1, 2, 0) = 0
             newEmail(0, 1, -2, 2, 0) = 1
@@ -88,7 +88,7 @@ final class Sending {
             house(2) = 5
             house(7) = 1
             """);
-        PromisesTest.run("16 clock, to the account itself, as one act", """
+        Runs.run("16 clock, to the account itself, as one act", """
             upload(0, 5, 1, 2, 3, 4) = 1
             newMailbox(0, 0, -1, 1, 0) = 0
             newMailbox(0, 1, -1, 3, 0) = 1
@@ -110,7 +110,7 @@ final class Sending {
             changes(0, 1, 1, 99) = 2 +e2 ~e1
             changes(0, 2, 1, 99) = 2 ~t1
             """);
-        PromisesTest.run("16 clock, what bounces", """
+        Runs.run("16 clock, what bounces", """
             upload(0, 5, 1, 2, 3, 4) = 1
             newMailbox(0, 0, -1, 1, 0) = 0
             newMailbox(0, 1, -1, 3, 0) = 1
@@ -140,7 +140,7 @@ final class Sending {
             state(0, 3) = 4
             """);
         fortyEmails();
-        PromisesTest.run("16 clock, by times, then by accounts, then by ids", """
+        Runs.run("16 clock, by times, then by accounts, then by ids", """
             upload(0, 1, 0, 0, 1, 0) = 1
             upload(1, 2, 0, 0, 1, 0) = 1
             newMailbox(0, 0, -1, 1, 0) = 0
@@ -166,7 +166,7 @@ final class Sending {
             ofEmail(0, 2, 1) = 9
             house(2) = 9
             """);
-        PromisesTest.run("16 clock, at most 9999", """
+        Runs.run("16 clock, at most 9999", """
             upload(0, 1, 0, 0, 1, 0) = 1
             newMailbox(0, 0, -1, 1, 0) = 0
             newEmail(0, 1, -2, 0, 0) = 1
@@ -189,7 +189,7 @@ final class Sending {
             ofEmail(0, 3, 1) = 9999
             house(0) = 10997
             """);
-        PromisesTest.run("16 clock, torn", """
+        Runs.run("16 clock, torn", """
             upload(0, 1, 0, 0, 1, 0) = 1
             newMailbox(0, 0, -1, 3, 0) = 0
             newMailbox(0, 1, -1, 1, 0) = 1
@@ -231,6 +231,6 @@ final class Sending {
         lines.append("upload(0, 1, 0, 0, 1, 0) = 1\nnewMailbox(0, 0, -1, 0, 0) = 0\nnewEmail(0, 1, -2, 0, 0) = 1\n");
         lines.append("submit(0, -3, 1, 0) = 2\nsubmit(0, -3, 1, 0) = 3\nrun(0) = m1 e1 s1 s2\nclock(0) = 2\n");
         lines.append("submissions(0) = s1:1 s2:3\nofAccount(1, 6) = 40\nofAccount(1, 8) = 2\n");
-        PromisesTest.run("16 clock, with forty emails there", lines.toString());
+        Runs.run("16 clock, with forty emails there", lines.toString());
     }
 }
