@@ -5,6 +5,7 @@ final class BoundsOfThings {
 
     static void all() {
         ids();
+        farIds();
         blobs();
         mailboxes();
         emails();
@@ -83,6 +84,38 @@ final class BoundsOfThings {
             upload(0, 1, 0, 0, 1, 0) = -9
             upload(0, 1, 0, 0, 1, 0) = 3
             """);
+    }
+
+    /** IDS 63, 64 and 65, and 128, each as the one that is told alone. */
+    private static void farIds() {
+        StringBuilder lines = new StringBuilder("upload(0, 1, 0, 0, 1, 0) = 1\nnewMailbox(0, 0, -1, 0, 0) = 0\nrun(0) = m1\n");
+        int next = 1;
+        int state = 0;
+        for (int alone : new int[] {63, 64, 65, 128}) {
+            while (next < alone) {
+                int many = Math.min(alone - next, 2);
+                StringBuilder answer = new StringBuilder();
+                for (int k = 0; k < many; k++) {
+                    lines.append("newEmail(0, 1, 1, 0, 0) = ").append(3 * k).append("\nsubmit(0, ").append(-2 - 3 * k);
+                    lines.append(", 2, 9999) = ").append(3 * k + 1).append("\ndropEmail(0, ").append(-2 - 3 * k);
+                    lines.append(") = ").append(3 * k + 2).append('\n');
+                    answer.append(" e").append(next + k).append(" s").append(next + k).append(" ok");
+                }
+                lines.append("run(0) =").append(answer).append('\n');
+                next += many;
+                state++;
+            }
+            lines.append("newEmail(0, 1, 1, 0, 0) = 0\nsubmit(0, -2, 2, 9999) = 1\nrun(0) = e").append(alone);
+            lines.append(" s").append(alone).append("\nchanges(0, 3, ").append(state).append(", 1) = ").append(state + 1);
+            lines.append(" +s").append(alone).append("\nthreads(0) = t").append(alone).append("\nthread(0, ").append(alone);
+            lines.append(") = e").append(alone).append("\nemails(0, -1) = e").append(alone).append("\nask(0, 0, 0, 1) = e");
+            lines.append(alone).append("\nofMailbox(0, 1, 7) = 1\nundo(0, ").append(alone).append(") = 0\ndropEmail(0, ");
+            lines.append(alone).append(") = 1\nrun(0) = ok ok\nchanges(0, 3, ").append(state + 1).append(", 1) = ");
+            lines.append(state + 2).append(" ~s").append(alone).append("\nthreads(0) =\n");
+            next++;
+            state += 2;
+        }
+        Runs.run("IDS 63, 64, 65 and 128", lines.toString());
     }
 
     private static void blobs() {
@@ -534,6 +567,10 @@ final class BoundsOfThings {
         }
         blobs.append("ofAccount(0, 8) = 509\nsweep(0) = 509\n");
         Runs.run("an object is used for at most 512 calls: BLOBS", blobs.toString());
+        Calls calls = new Calls(new Mailroom());
+        for (int call = 1; call <= 512; call++) {
+            Runs.due("the 512th call: upload " + call, calls.answer("upload(0, 1, 0, 0, 1, 0)"), Integer.toString(call));
+        }
         StringBuilder submissions = new StringBuilder("""
             upload(0, 1, 0, 0, 1, 0) = 1
             newMailbox(0, 0, -1, 0, 0) = 0

@@ -1,4 +1,5 @@
 import java.lang.reflect.Field;
+import java.lang.reflect.Method;
 
 /** isSound() tells when something is not so: each run spoils one thing inside an object that is sound. */
 public final class SoundTest {
@@ -23,13 +24,23 @@ public final class SoundTest {
         spoilt("a PARENT that is not there", "0", "mailboxes", 3, 1, 77);
         spoilt("a ring", "0", "mailboxes", 0, 1, 3);
         spoilt("DEPTH 4", "0", "mailboxes", 3, 1, 3);
+        spoilt("a PARENT that is not there, of the first one", "0", "mailboxes", 0, 1, 77);
         spoilt("a MAILBOX of an EMAIL that is not there", "0", "emails", 0, 10, 77);
         spoilt("an EMAIL in no MAILBOX", "0", "emails", 2, 3, 0);
         spoilt("a BLOB that is not there", "0", "emails", 0, 0, 77);
+        spoiltAlone("nothing", "1", 0, 2, 0);
+        spoiltAlone("the first MAILBOX of the first EMAIL not there", "0", 0, 10, 77);
+        spoiltAlone("the second MAILBOX of an EMAIL not there", "0", 0, 11, 77);
+        spoiltAlone("the MAILBOX of the last EMAIL not there", "0", 2, 10, 77);
+        spoiltAlone("an EMAIL in no MAILBOX", "0", 1, 3, 0);
+        spoiltAlone("the BLOB of the last EMAIL not there", "0", 2, 0, 77);
         spoilt("a THREAD that was not told", "0", "emails", 1, 4, 9);
         spoilt("a SUBMISSION other than in the LOG", "0", "submissions", 0, 3, 1);
         spoilt("a BLOB other than in the LOG", "0", "blobs", 1, 1, 1);
         spoiltPast();
+        spoiltOldest();
+        spoiltDigest();
+        spoiltOnlyOne();
         spoiltSize("size", -1);
         spoiltSize("next", 1);
         spoiltState("mailboxStates");
@@ -77,6 +88,78 @@ public final class SoundTest {
             ((int[]) get(its, "cells"))[row * wide + column] = value;
         }
         due(title, due, room);
+    }
+
+    /** The cell of an EMAIL, with COUNTS that are right for it, so that it alone is not so. */
+    private static void spoiltAlone(String title, String due, int row, int column, int value)
+            throws ReflectiveOperationException {
+        Mailroom room = made();
+        Object account = get(room, "first");
+        Object live = get(account, "live");
+        Object emails = get(live, "emails");
+        ((int[]) get(emails, "cells"))[row * (Integer) get(emails, "wide") + column] = value;
+        call(live, "recount");
+        Method copy = live.getClass().getDeclaredMethod("copy", live.getClass());
+        copy.setAccessible(true);
+        copy.invoke(get(account, "logged"), live);
+        due(title + ", all else right", due, room);
+    }
+
+    private static void call(Object of, String method) throws ReflectiveOperationException {
+        Method found = of.getClass().getDeclaredMethod(method);
+        found.setAccessible(true);
+        found.invoke(of);
+    }
+
+    /** What was there at the STATE of now, and at the oldest one that is known. */
+    private static void spoiltOldest() throws ReflectiveOperationException {
+        for (int behind = 0; behind <= 23; behind += 23) {
+            Mailroom room = made();
+            for (int round = 0; round < 40; round++) {
+                room.changeMailbox(0, 1, 3, round % 2);
+                room.changeEmail(0, 1, round % 2, 5);
+                room.run(0);
+            }
+            due("with many STATES", "1", room);
+            Object account = get(room, "first");
+            Object history = get(account, "mailboxStates");
+            int slot = ((Integer) get(history, "state") - behind) % 24;
+            ((long[][]) get(history, "thereAt"))[slot][0] ^= 64;
+            due("STATE " + behind + " below that of now", "0", room);
+            ((long[][]) get(history, "thereAt"))[slot][0] ^= 64;
+            due("as it was", "1", room);
+            slot = ((Integer) get(get(account, "emailStates"), "state") - behind) % 24;
+            // IDS of then in another sequence
+            int[] ids = (int[]) get(((Object[]) get(account, "emailsThen"))[slot], "ids");
+            ids[0] = 2;
+            ids[1] = 1;
+            due("EMAILS of the STATE " + behind + " below that of now", "0", room);
+        }
+    }
+
+    /** The PARENT of the one MAILBOX that there is. */
+    private static void spoiltOnlyOne() throws ReflectiveOperationException {
+        Mailroom room = new Mailroom();
+        room.newMailbox(1, 0, -1, 0, 0);
+        room.run(1);
+        due("one MAILBOX", "1", room);
+        for (String holdings : new String[] {"live", "logged"}) {
+            ((int[]) get(get(get(get(room, "second"), holdings), "mailboxes"), "cells"))[1] = 77;
+        }
+        due("one MAILBOX with a PARENT that is not there", "0", room);
+    }
+
+    /** The last of a digest is 1 or 0 as it is sound or not. */
+    private static void spoiltDigest() throws ReflectiveOperationException {
+        Mailroom room = made();
+        long sound = room.digest();
+        Object blobs = get(get(get(room, "first"), "logged"), "blobs");
+        ((int[]) get(blobs, "cells"))[0]++;
+        due("a BLOB other in the LOG", "0", room);
+        if (room.digest() != sound - 1) {
+            wrong++;
+            System.out.println("digest() of what is not sound answered " + room.digest() + ", due is " + (sound - 1));
+        }
     }
 
     /** Another sequence then than now, which no call can make; one QUERY alone has these EMAILS. */
