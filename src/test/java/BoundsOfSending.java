@@ -5,6 +5,7 @@ final class BoundsOfSending {
 
     static void all() {
         times();
+        standing();
         turns();
         filedAway();
         received();
@@ -67,6 +68,41 @@ final class BoundsOfSending {
             clock(1) = 1
             ofAccount(0, 10) = 0
             ofEmail(0, 2, 1) = 9999
+            """);
+    }
+
+    private static void standing() {
+        Runs.run("what is due, and is PENDING, is sent at clock(0), too", """
+            clock(0) = 0
+            clock(7) = 0
+            upload(0, 4, 0, 0, 1, 0) = 1
+            newMailbox(0, 0, -1, 1, 0) = 0
+            newEmail(0, 1, -2, 0, 0) = 1
+            submit(0, -3, 0, 7) = 2
+            submit(0, -3, 1, 0) = 3
+            submit(0, -3, 2, 8) = 4
+            submit(0, -3, 2, 7) = 5
+            undo(0, -7) = 6
+            run(0) = m1 e1 s1 s2 s3 s4 ok
+            submissions(0) = s1:0 s2:0 s3:0 s4:2
+            house(2) = 2
+            arm(true) = 0
+            clock(0) = -9
+            submissions(0) = s1:0 s2:0 s3:0 s4:2
+            emails(0, -1) = e1
+            house(0) = 7
+            house(2) = 2
+            clock(0) = 2
+            submissions(0) = s1:1 s2:3 s3:0 s4:2
+            emails(0, -1) = e1 e2
+            ofEmail(0, 2, 1) = 7
+            house(0) = 7
+            house(2) = 4
+            state(0, 3) = 3
+            arm(true) = 0
+            clock(0) = 0
+            house(1) = 1
+            clock(-1) = A
             """);
     }
 
